@@ -212,6 +212,7 @@ public final class PromisesTest {
         due("10 off all the same", x.freezes(2, 0, 7, 100), 64);
         due("10 no water is 1", x.freezes(4, 1, 0, 3), 91 - 135);
         due("10 most", x.freezes(4, 1, 1, 999999), 91 - 44999955);
+        due("10 no salt", x.freezes(4, 1, 5, 0), 91);
         x.set(3, 20);
         due("10 leaning needs more wind", x.freezes(5, 1, 1, 1), 16);
         x.set(3, 21);
@@ -302,8 +303,8 @@ public final class PromisesTest {
         due("13 use -1", x.law(-1, 1, 2, 3), BEYOND);
         String[] texts = {"t+w*c", "(t+w)*c", "w-t-t", "w/t/t", "100%w%t", "t<w", "w<t", "t=1", "t>w", "!t", "!0", "!!w",
             "0|w", "0|0", "t&w", "t&0", "1|0&0", "2+3<6", "w/0", "w%0", "!t+1", "(0-7)/2+10", "(0-7)%4+10", "t<w&w<c|0",
-            "w-t+c", "w*c/2", "w/2*c", "0-5<3", "(t=1)+(w=5)+(c=7)"};
-        int[] values = {1 + 5 * 7, 42, 3, 5, 0, 1, 0, 1, 0, 0, 1, 1, 1, 0, 1, 0, 1, 1, 0, 0, 1, 7, 7, 1, 11, 17, 14, 1, 3};
+            "w-t+c", "w*c/2", "w/2*c", "0-5<3", "(t=1)+(w=5)+(c=7)", "w<5", "w>5", "w>4", "w=4"};
+        int[] values = {1 + 5 * 7, 42, 3, 5, 0, 1, 0, 1, 0, 0, 1, 1, 1, 0, 1, 0, 1, 1, 0, 0, 1, 7, 7, 1, 11, 17, 14, 1, 3, 0, 0, 1, 0};
         for (int i = 0; i < texts.length; i++) {
             due("13 " + texts[i], textOf(x, 0, texts[i]), 1);
             due("13 value of " + texts[i], x.law(0, 1, 5, 7), values[i]);
@@ -350,6 +351,12 @@ public final class PromisesTest {
         due("14 no room: it drips", x.count(4), 51);
         due("14 drips", x.count(5), 2);
         due("14 40 CELLS still", x.count(1), 40);
+        IcicleRings y = new IcicleRings();
+        y.set(0, 1);
+        y.cause(0, 50);
+        y.ticks(1);
+        due("14 no more than the water", y.cell(0, 0), 11);
+        due("14 nothing is left", y.count(1), 1);
     }
 
     private static void p14Salt() {
@@ -450,6 +457,12 @@ public final class PromisesTest {
         due("14 beyond ahead of state", y.ticks(101), BEYOND);
         due("14 stays", y.count(0), 9999);
         due("15 not above", y.gusts(1), STATE);
+        IcicleRings g = new IcicleRings();
+        for (int i = 0; i < 99; i++) {
+            g.gusts(100);
+        }
+        due("15 would be above", g.gusts(100), STATE);
+        due("15 to the end", g.gusts(99), 9999);
         due("15 beyond ahead of state", y.gusts(0), BEYOND);
         due("15 no draw", y.count(9), 1);
         textOf(y, 0, "t%9999");
@@ -507,6 +520,12 @@ public final class PromisesTest {
         // 0, 30, 30, 0: both 30 stand out alike, so neither more than the other
         due("17 alike neighbours", icicle(0, 30, 30, 0).ring(-1), 0);
         due("17 flat", icicle(10, 10, 10).ring(-1), 0);
+        due("17 stands out by 1", icicle(10, 11).ring(0), 1);
+        // 20, 10, -30 and -30, 10, 20: only the ends stand out more than those beside them
+        due("17 beside the roof", icicle(60, 40, 10).ring(-1), 1);
+        due("17 the roof alone", icicle(60, 40, 10).ring(0), 0);
+        due("17 beside the tip", icicle(10, 40, 60).ring(-1), 1);
+        due("17 the tip alone", icicle(10, 40, 60).ring(0), 2);
         IcicleRings y = icicle(50, 10, 10, 50);
         due("17 ends", y.ring(-1), 2);
         due("17 the roof", y.ring(0), 0);
@@ -597,6 +616,10 @@ public final class PromisesTest {
         x.turn(1, 0);
         due("22 off already", x.needed(1), 0);
         x.turn(1, 1);
+        IcicleRings y = icicle(10, 10, 10);
+        y.set(0, 50);
+        y.cause(1, 25);
+        due("22 the first", y.needed(1), 1);
         x.cause(1, 25);
         due("22 one of two is enough", x.needed(1), 0);
         due("22 all on still", x.ofCause(1, 2) + x.ofCause(2, 2), 2);
@@ -616,6 +639,13 @@ public final class PromisesTest {
         due("23 for 2", x.little(1, 2), NONE);
         due("23 SALTY stays", x.set(1, 5), 0);
         due("23 whatever it is", x.little(1, 1), 2);
+        IcicleRings y = new IcicleRings();
+        y.set(0, 11);
+        y.set(3, 99);
+        y.cause(2, 50);
+        y.cause(4, 1);
+        // 109 freeze less SALTY: only with 99 less than all 11 do
+        due("23 the most", y.little(1, 1), 99);
         due("23 r 40", x.little(1, 40), NONE);
         due("23 r 41", x.little(1, 41), BEYOND);
         due("23 r -1", x.little(1, -1), BEYOND);
@@ -662,6 +692,9 @@ public final class PromisesTest {
         x.set(5, 40);
         textOf(x, 1, "c-10");
         due("25 the SETTING", x.falls(1), 31);
+        x.set(5, 10);
+        textOf(x, 1, "(c+50)*9");
+        due("25 the least", x.falls(1), -50);
     }
 
     private static void p26() {
@@ -792,6 +825,15 @@ public final class PromisesTest {
         y.box(-50, 9, 1);
         // SALTED is unlike the two others only with salt; below 0 nothing freezes by any
         due("30 salt tells them apart", y.tries(1), 1);
+        IcicleRings z = new IcicleRings();
+        z.cause(0, 50);
+        z.cause(0, 51);
+        z.box(20, 0, 0);
+        z.box(60, 0, 0);
+        // 10 and 10, 30 and 30; with 99, 49 and 50
+        due("30 COLD doesn't tell them apart", z.tries(9), 0);
+        z.box(99, 0, 0);
+        due("30 COLD tells them apart", z.tries(9), 2);
     }
 
     private static void p31() {
