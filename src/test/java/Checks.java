@@ -1,3 +1,7 @@
+import java.io.IOException;
+import java.nio.file.Files;
+import java.nio.file.Path;
+
 /** What the project's tests share: wrong answers are printed and counted. */
 final class Checks {
     static final int BEYOND = -1000000001;
@@ -8,15 +12,48 @@ final class Checks {
 
     private static int wrong = 0;
     private static int asked = 0;
+    private static String sentence = "";
+    private static int askedBefore = -1;
+    private static int sentences = 0;
+    private static String document = null;
 
     private Checks() {
+    }
+
+    /** A sentence of the document begins: the checks that follow are its test. */
+    static void says(String where, String words) {
+        closeSentence();
+        sentence = where + " \"" + words + "\": ";
+        askedBefore = asked;
+        sentences++;
+        if (!document().isEmpty() && !document().contains(words.replaceAll("\\s+", " "))) {
+            System.out.println("note: the document doesn't have these words any more: " + words);
+        }
+    }
+
+    private static void closeSentence() {
+        if (askedBefore == asked) {
+            wrong++;
+            System.out.println(sentence + "has no check");
+        }
+    }
+
+    private static String document() {
+        if (document == null) {
+            try {
+                document = Files.readString(Path.of("../shared/DOC.md")).replaceAll("\\s+", " ");
+            } catch (IOException e) {
+                document = "";
+            }
+        }
+        return document;
     }
 
     static void due(String what, long got, long want) {
         asked++;
         if (got != want) {
             wrong++;
-            System.out.println(what + " answered " + got + ", due is " + want);
+            System.out.println(sentence + what + " answered " + got + ", due is " + want);
         }
     }
 
@@ -24,7 +61,7 @@ final class Checks {
         asked++;
         if (!is) {
             wrong++;
-            System.out.println(what + " does not hold");
+            System.out.println(sentence + what + " does not hold");
         }
     }
 
@@ -42,8 +79,45 @@ final class Checks {
         return last;
     }
 
+    static int textOf(IcicleRings x, int use, String text) {
+        feed(x, text);
+        return x.text(use);
+    }
+
+    /** An icicle whose CELLS have these WIDE: 20 of water that none freezes makes a CELL each TICK. */
+    static IcicleRings icicle(int... wides) {
+        IcicleRings x = new IcicleRings();
+        x.set(0, 20);
+        if (wides.length > 1) {
+            x.ticks(wides.length - 1);
+        }
+        x.set(0, 200);
+        for (int i = 0; i < wides.length; i++) {
+            x.shape(i, 0, wides[i]);
+        }
+        return x;
+    }
+
+    /** A SHEET of 32 bits with these numbers. */
+    static void picture(IcicleRings x, int sheet, int... numbers) {
+        x.sheet(sheet, 32, numbers.length);
+        for (int i = 0; i < numbers.length; i++) {
+            x.put(sheet, i, numbers[i]);
+        }
+    }
+
+    /** TICKS go by up to one, a hundred in a call. */
+    static void toTick(IcicleRings x, int tick) {
+        int now = x.count(0);
+        while (now >= 0 && now < tick) {
+            now = x.ticks(Math.min(100, tick - now));
+        }
+    }
+
     static void end() {
-        System.out.println(wrong == 0 ? asked + " answers are as due" : wrong + " of " + asked + " are not as due");
+        closeSentence();
+        String of = sentences > 0 ? " (" + sentences + " sentences)" : "";
+        System.out.println(wrong == 0 ? asked + " answers are as due" + of : wrong + " of " + asked + " are not as due");
         if (wrong != 0) {
             System.exit(1);
         }

@@ -12,31 +12,16 @@ public final class PromisesTest {
         Checks.due(what, got, want);
     }
 
-    /** An icicle whose CELLS have these WIDE: 20 of water that none freezes makes a CELL each TICK. */
     private static IcicleRings icicle(int... wides) {
-        IcicleRings x = new IcicleRings();
-        x.set(0, 20);
-        if (wides.length > 1) {
-            x.ticks(wides.length - 1);
-        }
-        x.set(0, 200);
-        for (int i = 0; i < wides.length; i++) {
-            x.shape(i, 0, wides[i]);
-        }
-        return x;
+        return Checks.icicle(wides);
     }
 
-    /** A SHEET of 32 bits with these numbers. */
     private static void picture(IcicleRings x, int sheet, int... numbers) {
-        x.sheet(sheet, 32, numbers.length);
-        for (int i = 0; i < numbers.length; i++) {
-            x.put(sheet, i, numbers[i]);
-        }
+        Checks.picture(x, sheet, numbers);
     }
 
     private static int textOf(IcicleRings x, int use, String text) {
-        Checks.feed(x, text);
-        return x.text(use);
+        return Checks.textOf(x, use, text);
     }
 
     private static void p1() {
