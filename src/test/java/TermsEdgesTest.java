@@ -733,6 +733,24 @@ public final class TermsEdgesTest {
         due("all goes on", z.cell(1, 1), 19 * 99);
     }
 
+    private static void goesOn() {
+        says("3", "the rest of water and salt goes on");
+        IcicleRings x = icicle(10, 10, 10);
+        x.set(0, 40);
+        x.set(1, 10);
+        x.cause(0, 99);
+        x.ticks(1);
+        // 40 with 400 of salt: 19 freeze, 400 * 19 by 80 stay; 21 with 305: 19 freeze, 305 * 19 by 42 stay; 2 with 168 freeze
+        due("WIDE of CELL 0", x.cell(0, 0), 29);
+        due("SALT of CELL 0", x.cell(0, 1), 95);
+        due("WIDE of CELL 1", x.cell(1, 0), 29);
+        due("SALT of CELL 1", x.cell(1, 1), 137);
+        due("WIDE of CELL 2", x.cell(2, 0), 12);
+        due("SALT of CELL 2", x.cell(2, 1), 84);
+        due("no CELL of salt alone", x.count(1), 3);
+        due("no drop of salt alone", x.count(5), 0);
+    }
+
     private static void behindTheTip() {
         says("3", "DROP or more: it drips (DRIPPED is more by it, 0 at first; DRIPS is 1 more)");
         IcicleRings x = new IcicleRings();
@@ -1123,6 +1141,19 @@ public final class TermsEdgesTest {
         due("most in the fifth", z.tries(1), 4);
         due("by 0 none", z.tries(0), 0);
 
+        says("3", "(LENGTH or some WIDE); of several the least.");
+        IcicleRings t = new IcicleRings();
+        t.cause(2, 99);
+        t.cause(0, 99);
+        t.box(99, 0, 0);
+        t.box(99, 1, 0);
+        t.box(99, 2, 0);
+        due("the second and the third", t.tries(1), 1);
+        t.cause(5, 99);
+        due("two pairs in each", t.tries(1), 1);
+        t.box(-50, 99, 99);
+        due("none in the last", t.tries(1), 1);
+
         says("3", "give unlike CELLS (LENGTH or some WIDE)");
         // CELL 1 comes in TICK 0; 12 times CELL 0 takes all 87; then it grows until WIDE is held, by either CAUSE; in
         // the last TICK, of 9089, the lesser one freezes 87 and 8999 and leaves 3
@@ -1219,6 +1250,18 @@ public final class TermsEdgesTest {
         due("an answer that looks like an ERROR", x.voice(0, 0, -1000000001), -1000000001);
         due("is none", x.told(1), 0);
 
+        says("3", "runs(..) is the BODY of its KIND, or of the next KIND above that has one; super.runs(..) that from the KIND "
+            + "above the BODY's on.");
+        int[][] traces = {{10}, {10}, {30, 10}, {41, 30, 10}, {41, 30, 10}, {10}, {10}};
+        int[][] movesTraces = {{12}, {12}, {12}, {40, 12}, {40, 12}, {60, 12}, {12}};
+        int[][] chillsTraces = {{11, 10}, {20, 11, 10, 12}, {11, 30, 10}, {11, 41, 30, 10}, {11, 41, 30, 10}, {11, 10},
+            {70, 20, 11, 10, 12}};
+        for (int kind = 0; kind < 7; kind++) {
+            traced(kind, 0, traces[kind]);
+            traced(kind, 1, chillsTraces[kind]);
+            traced(kind, 2, movesTraces[kind]);
+        }
+
         says("3", "THE TRACE: the numbers of BODIES of the latest voice(), as they began "
             + "(what stands left is worked out first), the first 40.");
         IcicleRings y = new IcicleRings();
@@ -1237,6 +1280,16 @@ public final class TermsEdgesTest {
         due("the latest alone", y.trace(1), NONE);
         y.voice(1, 0, 0);
         due("a refused one leaves it", y.count(8), 1);
+    }
+
+    private static void traced(int kind, int act, int[] want) {
+        IcicleRings x = new IcicleRings();
+        x.cause(kind, 3);
+        x.voice(0, act, 5);
+        due("KIND " + kind + " act " + act, x.count(8), want.length);
+        for (int i = 0; i < want.length; i++) {
+            due("KIND " + kind + " act " + act + " place " + i, x.trace(i), want[i]);
+        }
     }
 
     private static void sheets() {
@@ -1275,6 +1328,7 @@ public final class TermsEdgesTest {
         faults();
         uses();
         tick();
+        goesOn();
         behindTheTip();
         massAndRings();
         ahead();
