@@ -417,6 +417,10 @@ public final class TermsEdgesTest {
         due("one more", x.feed('1', 1), FULL);
         due("it is a TEXT", x.text(0), 1);
         due("all of it", x.law(0, 0, 0, 0), 36);
+        // each of its bytes is a NUMBER or a sign: no TEXT has more of them to work out
+        due("50 parts", Checks.feed(x, "!0" + "+1".repeat(24)), 50);
+        due("it is a TEXT", x.text(0), 1);
+        due("all 50 are worked out", x.law(0, 0, 0, 0), 25);
         due("50 bytes", Checks.feed(x, fifty.replace("12", "1+")), 50);
         due("it ends too early", x.text(0), -60);
         due("50 bytes", Checks.feed(x, fifty.replace("12", "1)")), 50);
@@ -1153,6 +1157,13 @@ public final class TermsEdgesTest {
         due("two pairs in each", t.tries(1), 1);
         t.box(-50, 99, 99);
         due("none in the last", t.tries(1), 1);
+        // CAUSES that aren't there make no pairs: 1 and 1 freeze in BOX 0, 0 and 1 in BOX 1
+        IcicleRings few = new IcicleRings();
+        few.cause(0, 19);
+        few.cause(0, 20);
+        few.box(6, 0, 0);
+        few.box(5, 0, 0);
+        due("two CAUSES are one pair", few.tries(1), 1);
 
         says("3", "give unlike CELLS (LENGTH or some WIDE)");
         // CELL 1 comes in TICK 0; 12 times CELL 0 takes all 87; then it grows until WIDE is held, by either CAUSE; in
